@@ -1,0 +1,180 @@
+import java.util.ArrayList;
+import java.util.List;
+import java.util.Map;
+import java.util.Random;
+import java.util.TreeMap;
+
+/** Runs of 512 calls, drawn from fixed seeds, on the program and on SwarmModel: all answers must be the same. */
+public final class ModelTest {
+    private static final int RUNS = 1500;
+    private static final int CALLS = 512;
+    private static final String[] TURNS_TO_MEET = {
+        "lost with its sender", "lost with its receiver", "spare, had or held", "spare, marked and of another",
+        "held of a banned one", "failed", "failed again", "failed of one", "failed of many", "turns begin anew",
+        "next by turns", "opened by what came", "stranded", "marked and held", "marked and coming", "the end",
+        "a bound"};
+
+    private final Random random;
+    private final PieceSwarm program = new PieceSwarm();
+    private final SwarmModel model;
+    private final Checks checks;
+    private final List<String> calls = new ArrayList<>();
+    private final int mostTicks;
+    private int pieces;
+    private int blocks;
+    private int peers;
+
+    private ModelTest(int seed, Checks checks, Map<String, Integer> met) {
+        this.random = new Random(seed);
+        this.checks = checks;
+        this.model = new SwarmModel(met);
+        this.mostTicks = 1 + random.nextInt(4);
+    }
+
+    public static void main(String[] args) {
+        Checks checks = new Checks("ModelTest");
+        Map<String, Integer> met = new TreeMap<>();
+        for (int seed = 0; seed < RUNS && !checks.anyWrong(); seed++) {
+            new ModelTest(seed, checks, met).run();
+        }
+        for (String turn : TURNS_TO_MEET) {
+            checks.due("runs that meet: " + turn, met.getOrDefault(turn, 0) > 0, true);
+        }
+        checks.end();
+    }
+
+    private void run() {
+        setUp();
+        while (calls.size() < CALLS && !checks.anyWrong()) {
+            if (random.nextInt(5) == 0) {
+                change();
+            } else {
+                look();
+            }
+        }
+        if (checks.anyWrong()) {
+            System.out.println(String.join("\n", calls));
+        }
+    }
+
+    private void same(String call, int got, int want) {
+        calls.add(call + " = " + got);
+        checks.due(call, got, want);
+    }
+
+    private void same(String call, boolean got, boolean want) {
+        same(call, got ? 1 : 0, want ? 1 : 0);
+    }
+
+    private int near(int least, int most) {
+        return random.nextInt(40) == 0
+            ? new int[] {least - 1, most + 1, Integer.MIN_VALUE, Integer.MAX_VALUE, -1}[random.nextInt(5)]
+            : least + random.nextInt(most - least + 1);
+    }
+
+    private int anyPeer() {
+        return near(0, Math.max(0, peers - 1));
+    }
+
+    private int anyPiece() {
+        return near(0, pieces - 1);
+    }
+
+    private int anyBlock() {
+        return near(0, blocks - 1);
+    }
+
+    private void setUp() {
+        pieces = random.nextBoolean() ? 1 + random.nextInt(24) : 1 + random.nextInt(4);
+        blocks = 1 + random.nextInt(4);
+        int seed = random.nextInt();
+        same("file " + pieces + " " + blocks + " " + seed, program.file(pieces, blocks, seed),
+            model.file(pieces, blocks, seed));
+        addPeer(1);
+        int more = random.nextInt(12);
+        for (int i = 0; i < more; i++) {
+            addPeer(anyKind());
+        }
+        int share = 20 + random.nextInt(81);
+        for (int a = 0; a < peers; a++) {
+            for (int b = 0; b < a; b++) {
+                if (random.nextInt(100) < share) {
+                    meet(a, b);
+                }
+            }
+        }
+    }
+
+    private int anyKind() {
+        int[] kinds = {0, 0, 0, 1, 2, 3, 3, 3, 4, 4, 5};
+        return kinds[random.nextInt(kinds.length)];
+    }
+
+    private void addPeer(int kind) {
+        int up = near(1, 8);
+        int down = near(1, 8);
+        same("peer " + kind + " " + up + " " + down, program.peer(kind, up, down), model.peer(kind, up, down));
+        peers = program.count(1);
+    }
+
+    private void meet(int a, int b) {
+        same("meet " + a + " " + b, program.meet(a, b), model.meet(a, b));
+    }
+
+    private void change() {
+        int a = anyPeer();
+        int b = anyPeer();
+        int x = random.nextInt(100);
+        if (x < 50) {
+            int n = random.nextInt(60) == 0 ? near(0, 50) : random.nextInt(mostTicks + 1);
+            same("tick " + n, program.tick(n), model.tick(n));
+        } else if (x < 60) {
+            same("leave " + a, program.leave(a), model.leave(a));
+        } else if (x < 75) {
+            same("join " + a, program.join(a), model.join(a));
+        } else if (x < 85) {
+            meet(a, b);
+        } else if (x < 95) {
+            int f = random.nextBoolean() ? near(1, 4) : near(1, 100);
+            same("often " + a + " " + f, program.often(a, f), model.often(a, f));
+        } else if (x < 98) {
+            addPeer(near(0, 5));
+        } else {
+            same("file 2 2 2", program.file(2, 2, 2), model.file(2, 2, 2));
+        }
+    }
+
+    private void look() {
+        int a = anyPeer();
+        int b = anyPeer();
+        int piece = anyPiece();
+        int block = anyBlock();
+        switch (random.nextInt(14)) {
+            case 0 -> same("value " + piece + " " + block, program.value(piece, block), model.value(piece, block));
+            case 1 -> same("sum " + piece, program.sum(piece), model.sum(piece));
+            case 2, 3, 4 -> {
+                int what = near(0, 13);
+                same("about " + a + " " + what, program.about(a, what), model.about(a, what));
+            }
+            case 5 -> same("held " + a + " " + piece, program.held(a, piece), model.held(a, piece));
+            case 6 -> same("from " + a + " " + piece + " " + block, program.from(a, piece, block),
+                model.from(a, piece, block));
+            case 7 -> same("got " + a + " " + piece + " " + block, program.got(a, piece, block),
+                model.got(a, piece, block));
+            case 8 -> same("rare " + a + " " + piece, program.rare(a, piece), model.rare(a, piece));
+            case 9, 10, 11 -> {
+                int what = near(0, 8);
+                same("pair " + a + " " + b + " " + what, program.pair(a, b, what), model.pair(a, b, what));
+            }
+            case 12 -> {
+                int p = random.nextInt(4) == 0 ? -1 : a;
+                same("alone " + p, program.alone(p), model.alone(p));
+                same("bound " + a, program.bound(a), model.bound(a));
+            }
+            default -> {
+                int what = near(0, 10);
+                same("count " + what, program.count(what), model.count(what));
+            }
+        }
+    }
+}

@@ -103,7 +103,14 @@ public final class PieceSwarm {
         }
         int before = crowd.sentInAll;
         for (int i = 0; i < n; i++) {
-            runTick();
+            crowd.tickNumber++;
+            arrival.takeDue();
+            if (crowd.tickNumber % TICKS_PER_OPENING == 1) {
+                opening.openAll();
+            }
+            asking.dropStranded();
+            asking.runRounds();
+            arrival.takeDue();
         }
         return crowd.sentInAll - before;
     }
@@ -232,17 +239,6 @@ public final class PieceSwarm {
         }
     }
 
-    private void runTick() {
-        crowd.tickNumber++;
-        arrival.takeDue();
-        if (crowd.tickNumber % TICKS_PER_OPENING == 1) {
-            opening.openAll();
-        }
-        asking.dropStranded();
-        asking.runRounds();
-        arrival.takeDue();
-    }
-
     private static boolean isWithin(int number, int least, int most) {
         return number >= least && number <= most;
     }
@@ -363,21 +359,24 @@ public final class PieceSwarm {
             return has == 0 && comingInAll == 0 && heldInAll() == 0;
         }
 
-        /** Who gave the first BLOCK of a PIECE that is HELD; NONE if none is. */
+        /** Who gave the first BLOCK that is HELD of a PIECE that it hasn't; NONE if none is. */
         int firstGiver(int piece) {
             for (int block = 0; block < MOST_BLOCKS; block++) {
-                if (holds(piece, block)) {
-                    return givers[place(piece, block)];
+                int giver = givers[place(piece, block)];
+                if (giver != NONE) {
+                    return giver;
                 }
             }
             return NONE;
         }
 
+        /** All who gave a BLOCK that is HELD of a PIECE that it hasn't. */
         int giversOf(int piece) {
             int set = 0;
             for (int block = 0; block < MOST_BLOCKS; block++) {
-                if (holds(piece, block)) {
-                    set |= 1 << givers[place(piece, block)];
+                int giver = givers[place(piece, block)];
+                if (giver != NONE) {
+                    set |= 1 << giver;
                 }
             }
             return set;
@@ -737,8 +736,13 @@ public final class PieceSwarm {
                 return;
             }
             store.put(piece, block, giver, value);
-            if (store.heldOf(piece) == crowd.whole.blocks) {
-                judge(taker, piece);
+            if (store.heldOf(piece) < crowd.whole.blocks) {
+                return;
+            }
+            if (store.sumOf(piece, crowd.whole.blocks) == crowd.whole.sumOf(piece)) {
+                complete(member, piece);
+            } else {
+                fail(taker, piece);
             }
         }
 
@@ -749,15 +753,9 @@ public final class PieceSwarm {
             return isIn(store.marked, piece) && (store.giversOf(piece) & ~(1 << giver)) != 0;
         }
 
-        private void judge(int taker, int piece) {
-            Member member = crowd.members[taker];
-            Store store = member.store;
-            if (store.sumOf(piece, crowd.whole.blocks) != crowd.whole.sumOf(piece)) {
-                fail(taker, piece);
-                return;
-            }
-            store.has |= 1 << piece;
-            if (store.has == crowd.whole.allPieces()) {
+        private void complete(Member member, int piece) {
+            member.store.has |= 1 << piece;
+            if (member.store.has == crowd.whole.allPieces()) {
                 member.doneTick = crowd.tickNumber;
             }
         }

@@ -12,13 +12,15 @@ public final class ModelTest {
         "lost with its sender", "lost with its receiver", "spare, had or held", "spare, marked and of another",
         "held of a banned one", "failed", "failed again", "failed of one", "failed of many", "turns begin anew",
         "next by turns", "opened by what came", "stranded", "marked and held", "marked and coming", "the end",
-        "a bound"};
+        "a bound", "more than 100 coming",
+        "banned and was open to it"};
 
     private final Random random;
     private final PieceSwarm program = new PieceSwarm();
     private final SwarmModel model;
     private final Checks checks;
     private final List<String> calls = new ArrayList<>();
+    private final boolean crowded;
     private final int mostTicks;
     private int pieces;
     private int blocks;
@@ -28,6 +30,7 @@ public final class ModelTest {
         this.random = new Random(seed);
         this.checks = checks;
         this.model = new SwarmModel(met);
+        this.crowded = seed % 50 == 0;
         this.mostTicks = 1 + random.nextInt(4);
     }
 
@@ -44,7 +47,11 @@ public final class ModelTest {
     }
 
     private void run() {
-        setUp();
+        if (crowded) {
+            setUpCrowd();
+        } else {
+            setUp();
+        }
         while (calls.size() < CALLS && !checks.anyWrong()) {
             if (random.nextInt(5) == 0) {
                 change();
@@ -90,10 +97,10 @@ public final class ModelTest {
         int seed = random.nextInt();
         same("file " + pieces + " " + blocks + " " + seed, program.file(pieces, blocks, seed),
             model.file(pieces, blocks, seed));
-        addPeer(1);
-        int more = random.nextInt(12);
-        for (int i = 0; i < more; i++) {
-            addPeer(anyKind());
+        int many = 1 + random.nextInt(12);
+        int firstSeed = random.nextInt(many);
+        for (int i = 0; i < many; i++) {
+            addPeer(i == firstSeed ? 1 : anyKind());
         }
         int share = 20 + random.nextInt(81);
         for (int a = 0; a < peers; a++) {
@@ -102,6 +109,41 @@ public final class ModelTest {
                     meet(a, b);
                 }
             }
+        }
+    }
+
+    /**
+     * Eleven SLOW ones that each got other pieces of the seed, and so can all give and take as much as may be: as much
+     * as can be is on its way. Each in its turn is alone with the seed when this one opens; the others then come back,
+     * so that what they have is not rare.
+     */
+    private void setUpCrowd() {
+        pieces = 24;
+        blocks = 4;
+        same("file 24 4 1", program.file(24, 4, 1), model.file(24, 4, 1));
+        for (peers = 0; peers < 12; peers++) {
+            int kind = peers == 0 ? 1 : 4;
+            same("peer " + kind + " 8 8", program.peer(kind, 8, 8), model.peer(kind, 8, 8));
+            for (int i = 0; i < peers; i++) {
+                meet(i, peers);
+            }
+        }
+        for (int taker = 1; taker < peers; taker++) {
+            for (int i = 1; i < peers; i++) {
+                if (i != taker) {
+                    leave(i);
+                }
+            }
+            tick(1);
+            for (int i = 1; i < peers; i++) {
+                if (i != taker) {
+                    join(i);
+                }
+            }
+            tick(3);
+        }
+        for (int i = 0; i < 6; i++) {
+            tick(1);
         }
     }
 
@@ -121,17 +163,29 @@ public final class ModelTest {
         same("meet " + a + " " + b, program.meet(a, b), model.meet(a, b));
     }
 
+    private void leave(int p) {
+        same("leave " + p, program.leave(p), model.leave(p));
+    }
+
+    private void join(int p) {
+        same("join " + p, program.join(p), model.join(p));
+    }
+
+    private void tick(int n) {
+        same("tick " + n, program.tick(n), model.tick(n));
+    }
+
     private void change() {
         int a = anyPeer();
         int b = anyPeer();
         int x = random.nextInt(100);
         if (x < 50) {
             int n = random.nextInt(60) == 0 ? near(0, 50) : random.nextInt(mostTicks + 1);
-            same("tick " + n, program.tick(n), model.tick(n));
+            tick(n);
         } else if (x < 60) {
-            same("leave " + a, program.leave(a), model.leave(a));
+            leave(a);
         } else if (x < 75) {
-            same("join " + a, program.join(a), model.join(a));
+            join(a);
         } else if (x < 85) {
             meet(a, b);
         } else if (x < 95) {

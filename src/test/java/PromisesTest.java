@@ -26,6 +26,7 @@ public final class PromisesTest {
         ticksAndTheirEdges();
         openingByLateNumbers();
         openingByTurns();
+        firstByTurnsMayBeZero();
         lateNumberOfOneThatBecomesDone();
         freeAndShyOpenToNobody();
         shyTellsOfEvenPiecesAlone();
@@ -38,6 +39,7 @@ public final class PromisesTest {
         failOfTwoThenOfOneAlone();
         strandedMarkedPieceIsDropped();
         bannedOneIsNotNear();
+        banEndsOpeningBothWays();
         heldFromGot();
         aboutEdges();
         pairEdges();
@@ -377,6 +379,27 @@ public final class PromisesTest {
         due("10: after 5 it goes on with 6", x.pair(0, 6, 8), 1);
     }
 
+    private static void firstByTurnsMayBeZero() {
+        PieceSwarm x = swarm(24, 4, 0);
+        for (int i = 0; i < 5; i++) {
+            x.peer(PLAIN, 1, 1);
+        }
+        x.peer(SEED, 8, 1);
+        for (int i = 1; i <= 3; i++) {
+            x.meet(i, 5);
+        }
+        x.tick(4);
+        x.meet(0, 5);
+        x.meet(4, 5);
+        x.tick(1);
+        due("16: 0, as none was so before", x.pair(5, 0, 8), 1);
+        due("16: not 4", x.pair(5, 4, 3), 0);
+        x.tick(4);
+        due("16: four got as much: 0 is open by its late number", x.pair(5, 0, 3), 1);
+        due("16: not by turns", x.pair(5, 0, 8), 0);
+        due("16: after 0 comes 3", x.pair(5, 3, 8), 1);
+    }
+
     private static void lateNumberOfOneThatBecomesDone() {
         PieceSwarm x = swarm(2, 1, 0);
         x.peer(SEED, 1, 1);
@@ -643,6 +666,35 @@ public final class PromisesTest {
         x.join(2);
         due("8: bans are kept", x.pair(2, 1, 7), 1);
         due("7: they have met", x.meet(1, 2), false);
+    }
+
+    /** FALSE 1 has piece 0 alone, PLAIN 2 piece 1 alone, and each is open to the other when 2 bans 1. */
+    private static void banEndsOpeningBothWays() {
+        PieceSwarm x = swarm(2, 1, 0);
+        x.peer(SEED, 1, 1);
+        x.peer(FALSE, 1, 1);
+        x.peer(PLAIN, 1, 1);
+        x.peer(SEED, 1, 1);
+        x.meet(0, 1);
+        x.tick(1);
+        x.leave(0);
+        x.often(1, 1);
+        x.meet(1, 2);
+        x.meet(2, 3);
+        x.tick(4);
+        due("10: piece 1 is rarer", x.held(2, 1), 1);
+        x.leave(3);
+        x.leave(1);
+        x.tick(3);
+        x.join(1);
+        due("16: 1 is wanted", x.pair(1, 2, 2), 1);
+        due("16: 2 is wanted", x.pair(2, 1, 2), 1);
+        due("10: each gives one", x.tick(1), 2);
+        due("16: banned", x.pair(2, 1, 7), 1);
+        due("11: 1 is done", x.about(1, 9), 9);
+        due("16: 1 is not open to 2", x.pair(1, 2, 3) + x.about(1, 12), 0);
+        due("16: 2 is not open to 1", x.pair(2, 1, 3) + x.about(2, 12), 0);
+        due("16: what came late stays counted", x.pair(2, 1, 4), 1);
     }
 
     private static void heldFromGot() {

@@ -288,7 +288,7 @@ final class SwarmModel {
             to.doubted.merge(sender, 1, Integer::sum);
             if (senders.size() == 1) {
                 to.banned.add(sender);
-                to.open.remove(sender);
+                note(to.open.remove(sender) ? "banned and was open to it" : "banned");
                 peers.get(sender).open.remove(to.number);
             }
         }
@@ -463,6 +463,9 @@ final class SwarmModel {
         }
         x.due = g.kind == 4 ? time + 2 : time;
         coming.add(x);
+        if (coming.size() > 100) {
+            note("more than 100 coming");
+        }
     }
 
     int about(int p, int what) {

@@ -5,7 +5,7 @@ import java.lang.reflect.Modifier;
 import java.util.Set;
 import java.util.TreeSet;
 
-/** The public face is the document's and no more; the classes inside are static, and no class has a state that is static. */
+/** The public face is the document's and no more; the classes inside are static, and no static field can change. */
 public final class FaceTest {
     private static final Set<String> FACE = Set.of(
         "boolean file(int,int,int)", "int value(int,int)", "int sum(int)", "int peer(int,int,int)",

@@ -1,12 +1,5 @@
 /** Each promise by runs worked out by hand from the document: ordinary inputs, edges, wrong inputs. */
-public final class PromisesTest {
-    private static final int NONE = PieceSwarm.NONE;
-    private static final int PLAIN = 0;
-    private static final int SEED = 1;
-    private static final int FREE = 2;
-    private static final int FALSE = 3;
-    private static final int SLOW = 4;
-    private static final int SHY = 5;
+public final class PromisesTest implements Terms {
     private static final int[] NOT_PEERS = {-2, -1, 12, 13, Integer.MIN_VALUE, Integer.MAX_VALUE};
 
     private static final Checks CHECKS = new Checks("PromisesTest");
@@ -39,7 +32,6 @@ public final class PromisesTest {
         failOfTwoThenOfOneAlone();
         strandedMarkedPieceIsDropped();
         bannedOneIsNotNear();
-        banEndsOpeningBothWays();
         heldFromGot();
         aboutEdges();
         pairEdges();
@@ -59,9 +51,7 @@ public final class PromisesTest {
     }
 
     private static PieceSwarm swarm(int pieces, int blocks, int seed) {
-        PieceSwarm x = new PieceSwarm();
-        due("file", x.file(pieces, blocks, seed), true);
-        return x;
+        return Swarms.swarm(pieces, blocks, seed);
     }
 
     private static void newObject() {
@@ -666,35 +656,6 @@ public final class PromisesTest {
         x.join(2);
         due("8: bans are kept", x.pair(2, 1, 7), 1);
         due("7: they have met", x.meet(1, 2), false);
-    }
-
-    /** FALSE 1 has piece 0 alone, PLAIN 2 piece 1 alone, and each is open to the other when 2 bans 1. */
-    private static void banEndsOpeningBothWays() {
-        PieceSwarm x = swarm(2, 1, 0);
-        x.peer(SEED, 1, 1);
-        x.peer(FALSE, 1, 1);
-        x.peer(PLAIN, 1, 1);
-        x.peer(SEED, 1, 1);
-        x.meet(0, 1);
-        x.tick(1);
-        x.leave(0);
-        x.often(1, 1);
-        x.meet(1, 2);
-        x.meet(2, 3);
-        x.tick(4);
-        due("10: piece 1 is rarer", x.held(2, 1), 1);
-        x.leave(3);
-        x.leave(1);
-        x.tick(3);
-        x.join(1);
-        due("16: 1 is wanted", x.pair(1, 2, 2), 1);
-        due("16: 2 is wanted", x.pair(2, 1, 2), 1);
-        due("10: each gives one", x.tick(1), 2);
-        due("16: banned", x.pair(2, 1, 7), 1);
-        due("11: 1 is done", x.about(1, 9), 9);
-        due("16: 1 is not open to 2", x.pair(1, 2, 3) + x.about(1, 12), 0);
-        due("16: 2 is not open to 1", x.pair(2, 1, 3) + x.about(2, 12), 0);
-        due("16: what came late stays counted", x.pair(2, 1, 4), 1);
     }
 
     private static void heldFromGot() {

@@ -103,8 +103,8 @@ final class AskingBoundaries implements Terms {
     }
 
     /**
-     * 3 asked BLOCK 0 of PIECE 0 of SLOW 1 in tick 5, where both PIECES were like. Then it meets 2, which TELLS of PIECE 0:
-     * PIECE 1 is rarer, but PIECE 0 is begun by what is COMING alone.
+     * 3 asked BLOCK 0 of PIECE 0 of SLOW 1 in tick 5, where both PIECES were like. Then it meets 2, which TELLS of
+     * PIECE 0: PIECE 1 is rarer, but PIECE 0 is begun by what is COMING alone.
      */
     static void promise10APieceIsBegunByWhatIsComing(Checks checks) {
         PieceSwarm x = Swarms.swarm(2, 2);
@@ -227,8 +227,8 @@ final class AskingBoundaries implements Terms {
     }
 
     /**
-     * All four BLOCKS are asked of SLOW 1, which may send the most; at the END as many as the down rate leaves are asked of
-     * SEED 0, and these come at once.
+     * All four BLOCKS are asked of SLOW 1, which may send the most; at the END as many as the down rate leaves are
+     * asked of SEED 0, and these come at once.
      */
     static void promise10EndGoesByPieceThenBlock(Checks checks) {
         for (int more = 0; more <= 4; more++) {
@@ -298,8 +298,8 @@ final class AskingBoundaries implements Terms {
     }
 
     /**
-     * Tick 5: (0, 0) of 1, (0, 1) of 0, at the END (0, 0) of 0 and (0, 1) of 1. The first two FAIL together, then (0, 0) of
-     * 0 is HELD, and (0, 1) of 1 is SPARE. Tick 6: of 0 alone, and as the PIECE is MARKED there is no END.
+     * Tick 5: (0, 0) of 1, (0, 1) of 0, at the END (0, 0) of 0 and (0, 1) of 1. The first two FAIL together, then (0,
+     * 0) of 0 is HELD, and (0, 1) of 1 is SPARE. Tick 6: of 0 alone, and as the PIECE is MARKED there is no END.
      */
     static void promise10EndNotOfAMarkedPiece(Checks checks) {
         PieceSwarm x = Swarms.seedAndFalseOne(2, 2, 3, 8);

@@ -36,8 +36,8 @@ final class ComingBoundaries implements Terms {
     }
 
     /**
-     * 3 lacks PIECE 2 alone, which comes to 2 in tick 9 from SLOW 1: it then WANTS of 2, which OPENS to it and gives it in
-     * that tick.
+     * 3 lacks PIECE 2 alone, which comes to 2 in tick 9 from SLOW 1: it then WANTS of 2, which OPENS to it and gives it
+     * in that tick.
      */
     static void promise10WhatComesFirstIsGivenOnInTheSameTick(Checks checks) {
         PieceSwarm x = Swarms.swarm(3, 1);
@@ -87,6 +87,27 @@ final class ComingBoundaries implements Terms {
         checks.due("BANNED", x.pair(2, 1, 7), 1);
     }
 
+    /** Of the greatest FILE the 96th BLOCK, the last of PIECE 23, is false; then the SEED gives that PIECE. */
+    static void promise10TheLastPieceOfTwentyFourFails(Checks checks) {
+        PieceSwarm x = Swarms.swarm(24, 4);
+        x.peer(SEED, 8, 1);
+        x.peer(FALSE, 8, 8);
+        x.peer(PLAIN, 1, 8);
+        x.often(1, 96);
+        x.meet(0, 1);
+        x.tick(12);
+        x.meet(1, 2);
+        checks.due("ticks 13 to 24", x.tick(12), 96);
+        checks.due("HAS", x.about(2, 2), 23);
+        checks.due("FAILED", x.about(2, 7), 1);
+        checks.due("HELD of the last", x.held(2, 23), 0);
+        checks.due("BANNED", x.pair(2, 1, 7), 1);
+        x.meet(0, 2);
+        checks.due("tick 25", x.tick(1), 4);
+        checks.due("DONE", x.about(2, 9), 25);
+        checks.due("the last BLOCK from 0", x.from(2, 23, 3), 0);
+    }
+
     /** Three BLOCKS of FALSE 1 and one of SEED 0: both are DOUBTED once, and none is BANNED. */
     static void promise10FourBlocksOfTwoDoubtBoth(Checks checks) {
         PieceSwarm x = Swarms.seedAndFalseOne(4, 6, 8, 4);
@@ -133,8 +154,8 @@ final class ComingBoundaries implements Terms {
     }
 
     /**
-     * Tick 5: (0, 0) and (0, 1) of FALSE 1, at the END (0, 0) of SEED 3, and (0, 1) of SLOW 2, which is like 3 by then. What 1
-     * sent FAILS, and what 3 sent is HELD; so what comes of 2 in tick 7 is SPARE, and (0, 1) is asked of 3.
+     * Tick 5: (0, 0) and (0, 1) of FALSE 1, at the END (0, 0) of SEED 3, and (0, 1) of SLOW 2, which is like 3 by then.
+     * What 1 sent FAILS, and what 3 sent is HELD; so what comes of 2 in tick 7 is SPARE, and (0, 1) is asked of 3.
      */
     static void promise10OfAMarkedPieceABlockOfAnotherIsSpare(Checks checks) {
         PieceSwarm x = markedWithSlowAndSeed();
@@ -203,8 +224,8 @@ final class ComingBoundaries implements Terms {
     }
 
     /**
-     * Tick 5: all three of FALSE 1, at the END (0, 0) of SLOW 3 and then (0, 1) of SLOW 2. What 1 sent FAILS; so 3, who sent
-     * the first that is COMING, binds, and what comes of 2 is SPARE.
+     * Tick 5: all three of FALSE 1, at the END (0, 0) of SLOW 3 and then (0, 1) of SLOW 2. What 1 sent FAILS; so 3, who
+     * sent the first that is COMING, binds, and what comes of 2 is SPARE.
      */
     static void promise10OfAMarkedPieceTheFirstSentOfThoseComingBinds(Checks checks) {
         PieceSwarm x = Swarms.swarm(1, 3);

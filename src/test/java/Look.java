@@ -71,19 +71,40 @@ final class Look {
 
     /** All answers behind a run, asked of as many new objects as the greatest number of calls makes needful. */
     int[] answersBehind(Run run) {
-        int perObject = Run.MOST_CALLS - run.length();
-        if (perObject < 1) {
-            throw new IllegalStateException("the run leaves no call to look with");
-        }
+        int perObject = callsLeft(run, 0);
         int[] answers = new int[questions.size()];
-        PieceSwarm asked = null;
-        for (int i = 0; i < answers.length; i++) {
-            if (i % perObject == 0) {
-                asked = run.made();
-            }
-            answers[i] = questions.get(i).applyAsInt(asked);
+        for (int first = 0; first < answers.length; first += perObject) {
+            ask(run.made(), first, perObject, answers);
         }
         return answers;
+    }
+
+    /** Behind a run a call gives its answer, and all that is asked of the same object before and behind it is alike. */
+    void dueUnchanged(Checks checks, Run run, String name, ToIntFunction<PieceSwarm> call, int answer) {
+        int perObject = callsLeft(run, 1) / 2;
+        int[] before = new int[questions.size()];
+        int[] behind = new int[questions.size()];
+        for (int first = 0; first < before.length; first += perObject) {
+            PieceSwarm asked = run.made();
+            ask(asked, first, perObject, before);
+            checks.due(name, call.applyAsInt(asked), answer);
+            ask(asked, first, perObject, behind);
+        }
+        dueAlike(checks, "behind " + name, behind, before);
+    }
+
+    private static int callsLeft(Run run, int calls) {
+        int left = Run.MOST_CALLS - run.length() - calls;
+        if (left < 2) {
+            throw new IllegalStateException("the run leaves no calls to look with");
+        }
+        return left;
+    }
+
+    private void ask(PieceSwarm asked, int first, int many, int[] answers) {
+        for (int i = first; i < first + many && i < answers.length; i++) {
+            answers[i] = questions.get(i).applyAsInt(asked);
+        }
     }
 
     void dueAlike(Checks checks, String text, Run got, Run want) {

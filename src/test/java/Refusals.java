@@ -1,8 +1,8 @@
 import java.util.function.ToIntFunction;
 
 /**
- * Each call that is refused, in three states: its answer, and that all that can be asked is answered alike with the call
- * and without it, at once and behind more ticks.
+ * Each call that is refused, in three states: its answer, and that all that can be asked is answered alike before it
+ * and behind it, and, behind three ticks more, as if it had not been called.
  */
 final class Refusals implements Terms {
     private static final int[] FAR = {LEAST, -1, GREATEST};
@@ -10,14 +10,13 @@ final class Refusals implements Terms {
     private Refusals() {
     }
 
-    /** A run with what can be asked behind it, and the answers as they are if nothing was refused. */
+    /** A run with what can be asked behind it, and the answers three ticks later if nothing was refused. */
     private static final class State {
         final Run run;
         final Look look;
         final int pieces;
         final int blocks;
         final int peers;
-        final int[] atOnce;
         final int[] later;
 
         State(Run run, int pieces, int blocks, int peers) {
@@ -26,15 +25,12 @@ final class Refusals implements Terms {
             this.pieces = pieces;
             this.blocks = blocks;
             this.peers = peers;
-            this.atOnce = look.answersBehind(run);
             this.later = look.answersBehind(run.tick(3));
         }
 
         void refuses(Checks checks, String name, ToIntFunction<PieceSwarm> call, int answer) {
-            checks.due(name, call.applyAsInt(run.made()), answer);
-            Run refused = run.and(call);
-            look.dueAlike(checks, "behind " + name, look.answersBehind(refused), atOnce);
-            look.dueAlike(checks, "three ticks behind " + name, look.answersBehind(refused.tick(3)), later);
+            look.dueUnchanged(checks, run, name, call, answer);
+            look.dueAlike(checks, "three ticks behind " + name, look.answersBehind(run.and(call).tick(3)), later);
         }
 
         int[] noPeers() {

@@ -51,8 +51,8 @@ final class Swarms implements Terms {
     }
 
     /**
-     * SEED 0 and FALSE 1, which has all (8 BLOCKS at the most) and of which each BLOCK is false, are both NEAR to 2, that
-     * has none yet; it is tick 4, so that the next tick OPENS.
+     * SEED 0 and FALSE 1, which has all (8 BLOCKS at the most) and of which each BLOCK is false, are both NEAR to 2,
+     * that has none yet; it is tick 4, so that the next tick OPENS.
      */
     static PieceSwarm seedAndFalseOne(int blocks, int seedUp, int falseUp, int down) {
         PieceSwarm x = swarm(1, blocks);

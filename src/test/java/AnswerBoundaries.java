@@ -5,6 +5,9 @@ final class AnswerBoundaries implements Terms {
     private AnswerBoundaries() {
     }
 
+    @Holds({
+        "Of a PEER, what 0 KIND;",
+        "another what."})
     static void promise11WhatNoughtToThirteen(Checks checks) {
         PieceSwarm x = Swarms.swarm(24, 4);
         x.peer(SEED, 1, 1);
@@ -17,6 +20,7 @@ final class AnswerBoundaries implements Terms {
         }
     }
 
+    @Holds("NONE: no such PEER,")
     static void promise11NoSuchPeer(Checks checks) {
         PieceSwarm x = new PieceSwarm();
         Swarms.add(x, 11, SHY, 1, 1);
@@ -30,7 +34,53 @@ final class AnswerBoundaries implements Terms {
         checks.due("a thirteenth", x.about(12, 0), NONE);
     }
 
+    @Holds("1 whether it is HERE;")
+    static void promise11HereOrGone(Checks checks) {
+        PieceSwarm x = new PieceSwarm();
+        Swarms.add(x, 2, PLAIN, 1, 1);
+        checks.due("new", x.about(0, 1), 1);
+        x.leave(0);
+        checks.due("gone", x.about(0, 1), 0);
+        checks.due("the other one", x.about(1, 1), 1);
+        x.tick(5);
+        checks.due("gone still", x.about(0, 1), 0);
+        x.join(0);
+        checks.due("here again", x.about(0, 1), 1);
+    }
+
+    /** SEED 0 meets one by one and is open from the next opening on, to four at the most; then they go one by one. */
+    @Holds("12 how many it is open to; 13 NEIGHBOURS.")
+    static void promise11OpenToAndNeighbours(Checks checks) {
+        PieceSwarm x = Swarms.swarm(24, 4);
+        x.peer(SEED, 1, 1);
+        Swarms.add(x, 5, PLAIN, 1, 1);
+        for (int met = 1; met <= 5; met++) {
+            x.meet(met, 0);
+            checks.due("NEIGHBOURS", x.about(0, 13), met);
+            checks.due("NEIGHBOURS of the other one", x.about(met, 13), 1);
+            checks.due("open to, before a tick", x.about(0, 12), met - 1);
+            x.tick(4);
+            checks.due("open to", x.about(0, 12), Math.min(met, 4));
+        }
+        checks.due("the others are open to none", x.about(1, 12), 0);
+        int open = 4;
+        for (int p = 1; p <= 5; p++) {
+            open -= x.pair(0, p, 3);
+            x.leave(p);
+            checks.due("open to those that are HERE", x.about(0, 12), open);
+            checks.due("NEIGHBOURS still", x.about(0, 13), 5);
+        }
+        checks.due("open to none", open, 0);
+    }
+
     /** A BLOCK a tick, from none to all 96. */
+    @Holds({
+        "2 PIECES that it HAS;",
+        "3 BLOCKS that it HOLDS (of others);",
+        "4 that came to it,",
+        "5 that it sent;",
+        "9 the tick in which it became DONE",
+        "It is DONE if it HAS all."})
     static void promise11FromNoBlockToAll(Checks checks) {
         PieceSwarm x = Swarms.seedAndTaker(24, 4, 1, 1);
         for (int tick = 1; tick <= 96; tick++) {
@@ -64,6 +114,7 @@ final class AnswerBoundaries implements Terms {
         checks.due("HAS", x.about(2, 2), 0);
     }
 
+    @Holds("(0 of SEEDS; NONE: it isn't);")
     static void promise11DoneInTheFirstTickAndNever(Checks checks) {
         PieceSwarm x = Swarms.seedAndTaker(1, 1, 1, 1);
         x.peer(PLAIN, 1, 1);
@@ -75,6 +126,10 @@ final class AnswerBoundaries implements Terms {
     }
 
     /** SLOW 1 and 2 both send the one BLOCK: it is COMING twice, and one of the two is SPARE. */
+    @Holds({
+        "SPARE ones, too;",
+        "6 SPARE ones;",
+        "10 BLOCKS that are COMING to it;"})
     static void promise11TheSameBlockComingTwice(Checks checks) {
         PieceSwarm x = Swarms.swarm(1, 1);
         x.peer(SEED, 8, 1);
@@ -116,6 +171,10 @@ final class AnswerBoundaries implements Terms {
     }
 
     /** Ten FALSE ones give the one PIECE: each in its turn FAILS and is BANNED, and the PIECE is MARKED once. */
+    @Holds({
+        "7 PIECES that FAILED;",
+        "8 MARKED ones;",
+        "11 how many PEERS it BANNED;"})
     static void promise11BansNoneToTen(Checks checks) {
         PieceSwarm x = Swarms.swarm(1, 1);
         x.peer(SEED, 8, 1);
@@ -163,6 +222,7 @@ final class AnswerBoundaries implements Terms {
         checks.due("BANNED", x.about(0, 11), 0);
     }
 
+    @Holds("Of a PEER and a PIECE: K if it HAS it, else how many BLOCKS it HOLDS.")
     static void promise12NoneToK(Checks checks) {
         for (int blocks = 1; blocks <= 4; blocks++) {
             PieceSwarm x = Swarms.seedAndTaker(2, blocks, 1, 1);
@@ -175,6 +235,7 @@ final class AnswerBoundaries implements Terms {
         }
     }
 
+    @Holds("NONE: no such ones.")
     static void promise12NoSuchOnes(Checks checks) {
         int[][] files = {{1, 1}, {24, 4}, {5, 2}};
         for (int[] file : files) {
@@ -192,6 +253,7 @@ final class AnswerBoundaries implements Terms {
         }
     }
 
+    @Holds("or it had it from the beginning.")
     static void promise13NoneOfASeed(Checks checks) {
         PieceSwarm x = Swarms.swarm(24, 4);
         x.peer(SEED, 1, 1);
@@ -202,6 +264,10 @@ final class AnswerBoundaries implements Terms {
         }
     }
 
+    @Holds({
+        "From whom a BLOCK came that a PEER HOLDS, or of a PIECE that it HAS.",
+        "it hasn't it,",
+        "and each block led back to who gave it."})
     static void promise13HeldHadAndNeither(Checks checks) {
         PieceSwarm x = Swarms.seedAndTaker(2, 2, 3, 3);
         checks.due("nothing yet", x.from(1, 0, 0), NONE);
@@ -234,6 +300,7 @@ final class AnswerBoundaries implements Terms {
         checks.due("the last", x.from(0, 23, 3), 11);
     }
 
+    @Holds("NONE: no such one,")
     static void promise13NoSuchOne(Checks checks) {
         PieceSwarm x = Swarms.seedAndTaker(3, 2, 8, 8);
         x.tick(1);
@@ -262,6 +329,7 @@ final class AnswerBoundaries implements Terms {
         }
     }
 
+    @Holds("The VALUE of a BLOCK that a PEER HOLDS, or of a PIECE that it HAS;")
     static void promise14HeldHadAndNeither(Checks checks) {
         PieceSwarm x = Swarms.seedAndTaker(2, 2, 3, 3);
         checks.due("nothing yet", x.got(1, 0, 0), 0);
@@ -271,6 +339,7 @@ final class AnswerBoundaries implements Terms {
         checks.due("neither", x.got(1, 1, 1), 0);
     }
 
+    @Holds("A PEER HAS a PIECE, or HOLDS some of its BLOCKS (their VALUES, and from whom they came).")
     static void promise14AFalseValueIsHeldAsItCame(Checks checks) {
         PieceSwarm x = Swarms.oneThatGotAll(1, 2, FALSE, 1);
         x.often(1, 1);
@@ -282,6 +351,7 @@ final class AnswerBoundaries implements Terms {
         checks.due("FAILED: none", x.got(2, 0, 0), 0);
     }
 
+    @Holds("0 without one.")
     static void promise14NoSuchOne(Checks checks) {
         PieceSwarm x = Swarms.swarm(3, 2);
         x.peer(SEED, 1, 1);
@@ -298,6 +368,9 @@ final class AnswerBoundaries implements Terms {
     }
 
     /** Eleven SEEDS meet 11 one by one, then go one by one; a PEER does not count itself. */
+    @Holds({
+        "How many of those that are NEAR to a PEER TELL of a PIECE.",
+        "Others TELL of all PIECES that they HAVE."})
     static void promise15NoneToEleven(Checks checks) {
         PieceSwarm x = Swarms.swarm(24, 4);
         Swarms.add(x, 12, SEED, 1, 1);
@@ -328,6 +401,9 @@ final class AnswerBoundaries implements Terms {
         checks.due("HAS it", x.rare(0, 0), 1);
     }
 
+    @Holds({
+        "and it TELLS of PIECES of even numbers alone.",
+        "and shy ones,"})
     static void promise15ShyOnesTellOfEvenNumbers(Checks checks) {
         PieceSwarm x = Swarms.swarm(24, 1);
         x.peer(SEED, 8, 1);
@@ -342,6 +418,7 @@ final class AnswerBoundaries implements Terms {
         }
     }
 
+    @Holds("NONE: no such ones.")
     static void promise15NoSuchOnes(Checks checks) {
         PieceSwarm x = Swarms.seedAndTaker(5, 1, 1, 1);
         checks.due("the last PIECE", x.rare(1, 4), 1);
@@ -354,6 +431,10 @@ final class AnswerBoundaries implements Terms {
         }
     }
 
+    @Holds({
+        "Of PEERS a and b, what 0 whether they are NEIGHBOURS;",
+        "3 whether a is open to b;",
+        "another what."})
     static void promise16WhatNoughtToEight(Checks checks) {
         PieceSwarm x = Swarms.seedAndTaker(24, 4, 1, 1);
         int[] before = {1, 1, 1, 0, 0, 0, 0, 0, 0};
@@ -370,6 +451,7 @@ final class AnswerBoundaries implements Terms {
         }
     }
 
+    @Holds("or one and the same,")
     static void promise16OneAndTheSame(Checks checks) {
         PieceSwarm x = new PieceSwarm();
         Swarms.add(x, 12, PLAIN, 1, 1);
@@ -380,6 +462,7 @@ final class AnswerBoundaries implements Terms {
         }
     }
 
+    @Holds("NONE: no such two,")
     static void promise16NoSuchTwo(Checks checks) {
         PieceSwarm x = new PieceSwarm();
         Swarms.add(x, 2, PLAIN, 1, 1);
@@ -404,6 +487,39 @@ final class AnswerBoundaries implements Terms {
         }
     }
 
+    @Holds("1 NEAR;")
+    static void promise16NearBothWays(Checks checks) {
+        PieceSwarm x = new PieceSwarm();
+        Swarms.add(x, 2, PLAIN, 1, 1);
+        checks.due("strangers", x.pair(0, 1, 1) + x.pair(1, 0, 1), 0);
+        x.meet(0, 1);
+        checks.due("they met", x.pair(0, 1, 1) + x.pair(1, 0, 1), 2);
+        for (int goes = 0; goes <= 1; goes++) {
+            x.leave(goes);
+            checks.due(goes + " is gone", x.pair(0, 1, 1) + x.pair(1, 0, 1), 0);
+            x.join(goes);
+            checks.due(goes + " is here again", x.pair(0, 1, 1) + x.pair(1, 0, 1), 2);
+        }
+    }
+
+    /** FALSE 1 gives two false PIECES to 2, and one to 3, in one tick each. */
+    @Holds("6 how often a DOUBTED b; 7 whether a BANNED b;")
+    static void promise16DoubtsAndBansGoOneWay(Checks checks) {
+        PieceSwarm x = Swarms.oneThatGotAll(2, 1, FALSE, 3);
+        x.often(1, 1);
+        x.peer(PLAIN, 1, 2);
+        x.peer(PLAIN, 1, 1);
+        Swarms.meetAll(x, 1, 2, 3);
+        x.meet(2, 3);
+        checks.due("tick 5", x.tick(1), 3);
+        int[][] doubts = {{1, 2, 0}, {1, 3, 0}, {2, 1, 2}, {2, 3, 0}, {3, 1, 1}, {3, 2, 0}, {0, 1, 0}, {1, 0, 0}};
+        for (int[] row : doubts) {
+            checks.due(row[0] + " DOUBTED " + row[1], x.pair(row[0], row[1], 6), row[2]);
+            checks.due(row[0] + " BANNED " + row[1], x.pair(row[0], row[1], 7), row[2] > 0 ? 1 : 0);
+        }
+    }
+
+    @Holds("2 whether b WANTS of a;")
     static void promise16WantsTillItHasTheLastPiece(Checks checks) {
         PieceSwarm x = Swarms.seedAndTaker(1, 4, 1, 1);
         for (int held = 0; held <= 3; held++) {
@@ -418,6 +534,7 @@ final class AnswerBoundaries implements Terms {
     }
 
     /** SHY 1 HAS PIECE 1 alone of what 2 lacks, and does not TELL of it. */
+    @Holds("b WANTS of a: they are NEAR, and a TELLS of a PIECE that b hasn't.")
     static void promise16NobodyWantsWhatAShyOneDoesNotTell(Checks checks) {
         PieceSwarm x = Swarms.swarm(2, 1);
         x.peer(SEED, 8, 1);
@@ -432,6 +549,9 @@ final class AnswerBoundaries implements Terms {
         checks.due("not of the SHY one", x.pair(1, 2, 2), 0);
     }
 
+    @Holds({
+        "4 the LATE number of b at a;",
+        "5 BLOCKS that a sent to b;"})
     static void promise16SentGoesOnWhereLateBeginsAnew(Checks checks) {
         PieceSwarm x = Swarms.seedAndTaker(24, 4, 8, 8);
         for (int tick = 1; tick <= 12; tick++) {
@@ -444,6 +564,8 @@ final class AnswerBoundaries implements Terms {
         checks.due("tick 13: sent", x.pair(0, 1, 5), 96);
     }
 
+    @Holds("8 whether a is open to b BY TURNS (b was chosen so by a the latest time that a OPENED, and a is open to "
+        + "it still; 1, 0).")
     static void promise16ByTurnsOnlyWhileItIsOpen(Checks checks) {
         PieceSwarm x = Swarms.swarm(24, 4);
         x.peer(SEED, 1, 1);
@@ -462,6 +584,7 @@ final class AnswerBoundaries implements Terms {
         checks.due("the giver is gone", x.pair(0, 4, 8), 0);
     }
 
+    @Holds("How many PIECES no PEER that is HERE HAS;")
     static void promise17NoneHasAndAllHave(Checks checks) {
         for (int pieces : new int[] {1, 24}) {
             PieceSwarm x = Swarms.swarm(pieces, 4);
@@ -497,6 +620,7 @@ final class AnswerBoundaries implements Terms {
     }
 
     /** 1 HAS the PIECES 0 to 2, and 2 HAS PIECE 0; the SEED, gone, HAS all five. */
+    @Holds("for p not NONE: how many that one HAS, but no other one that is HERE.")
     static void promise17EachHasSome(Checks checks) {
         PieceSwarm x = Swarms.swarm(5, 1);
         x.peer(SEED, 8, 1);
@@ -528,6 +652,7 @@ final class AnswerBoundaries implements Terms {
         checks.due("none is missing", x.alone(NONE), 0);
     }
 
+    @Holds("NONE: no such PEER.")
     static void promise17NoSuchPeer(Checks checks) {
         PieceSwarm x = new PieceSwarm();
         Swarms.add(x, 2, SEED, 1, 1);
@@ -538,6 +663,7 @@ final class AnswerBoundaries implements Terms {
     }
 
     /** Rows of pieces, blocks, up rate of the SEED, down and up rate of the other one, and what is due. */
+    @Holds("the greatest, cut up to whole numbers, of: the FILE's BLOCKS by the up rate of s;")
     static void promise18CutUpToWholeNumbers(Checks checks) {
         int[][] rows = {
             {1, 1, 8, 8, 8, 1}, {1, 1, 1, 1, 1, 1}, {2, 4, 8, 8, 8, 1}, {3, 3, 8, 8, 8, 2}, {7, 1, 8, 8, 8, 1},
@@ -553,6 +679,7 @@ final class AnswerBoundaries implements Terms {
     }
 
     /** All BLOCKS times the others by all up rates: 96 times 11 by 24 is 44, by 23 it is 45.9, by 25 it is 42.2. */
+    @Holds("all these BLOCKS times the other PEERS that are HERE by the up rates of all that are HERE together.")
     static void promise18AllBlocksByAllUpRates(Checks checks) {
         int[][] rows = {{15, 46}, {16, 44}, {17, 43}};
         for (int[] row : rows) {
@@ -565,6 +692,7 @@ final class AnswerBoundaries implements Terms {
         }
     }
 
+    @Holds("by the down rate of each other PEER that is HERE;")
     static void promise18EachOtherDownRateCounts(Checks checks) {
         for (int slowest = 1; slowest <= 11; slowest++) {
             PieceSwarm x = Swarms.swarm(24, 4);
@@ -585,6 +713,9 @@ final class AnswerBoundaries implements Terms {
         checks.due("nobody needs to have met", x.about(2, 13), 0);
     }
 
+    @Holds({
+        "The BOUND, if s is HERE and DONE:",
+        "not HERE, not DONE,"})
     static void promise18NotHereOrNotDone(Checks checks) {
         PieceSwarm x = Swarms.swarm(2, 1);
         x.peer(SEED, 1, 1);
@@ -597,6 +728,7 @@ final class AnswerBoundaries implements Terms {
         checks.due("HERE again", x.bound(0), 2);
     }
 
+    @Holds("there is no other one that is HERE,")
     static void promise18NoOtherOneHere(Checks checks) {
         PieceSwarm x = Swarms.swarm(2, 1);
         x.peer(SEED, 1, 1);
@@ -607,6 +739,7 @@ final class AnswerBoundaries implements Terms {
         checks.due("it is gone", x.bound(0), NONE);
     }
 
+    @Holds("or one of these HAS or HOLDS something,")
     static void promise18AnotherHasOrHolds(Checks checks) {
         PieceSwarm x = Swarms.seedAndTaker(24, 2, 1, 1);
         x.peer(PLAIN, 1, 1);
@@ -621,6 +754,7 @@ final class AnswerBoundaries implements Terms {
         checks.due("another SEED", x.bound(0), NONE);
     }
 
+    @Holds("or something is COMING to it.")
     static void promise18SomethingIsComing(Checks checks) {
         PieceSwarm x = Swarms.oneThatGotAll(1, 1, SLOW, 1);
         x.peer(PLAIN, 1, 1);
@@ -633,6 +767,7 @@ final class AnswerBoundaries implements Terms {
         checks.due("it is lost", x.bound(1), 1);
     }
 
+    @Holds("NONE: no such PEER,")
     static void promise18NoSuchPeer(Checks checks) {
         PieceSwarm x = new PieceSwarm();
         x.peer(PLAIN, 1, 1);
@@ -643,6 +778,10 @@ final class AnswerBoundaries implements Terms {
         }
     }
 
+    @Holds({
+        "what 0 tick;",
+        "4 N, 5 K; 6 BLOCKS sent in all; 7 that are COMING; 8 lost on their way;",
+        "NONE for another what."})
     static void promise19WhatNoughtToTen(Checks checks) {
         PieceSwarm x = Swarms.oneThatGotAll(2, 3, SLOW, 4);
         x.peer(PLAIN, 1, 4);
@@ -660,6 +799,7 @@ final class AnswerBoundaries implements Terms {
         checks.due("lost", x.count(8), 4);
     }
 
+    @Holds("1 PEERS; 2 those HERE; 3 those HERE that are DONE;")
     static void promise19PeersHereAndDone(Checks checks) {
         PieceSwarm x = new PieceSwarm();
         for (int i = 0; i < 12; i++) {
@@ -675,6 +815,7 @@ final class AnswerBoundaries implements Terms {
     }
 
     /** 0 gets one BLOCK of two SEEDS, so that one is SPARE, and 11 one of FALSE 3, which FAILS. */
+    @Holds("9 FAILED PIECES of all; 10 SPARE ones of all.")
     static void promise19OfTheFirstAndTheLastPeer(Checks checks) {
         for (int spare : new int[] {0, 11}) {
             PieceSwarm x = Swarms.swarm(1, 1);

@@ -11,8 +11,9 @@ import java.util.stream.Stream;
  * (promise5...); the run fails too if a promise has no test, or a method is not so named.
  */
 public final class BoundaryTest {
-    private static final int PROMISES = 19;
-    private static final Pattern NAME = Pattern.compile("promise(\\d+)[A-Z].*");
+    static final int PROMISES = 19;
+
+    private static final Pattern NAME = Pattern.compile("promise(\\d{1,2})[A-Z].*");
     private static final List<Class<?>> GROUPS = List.of(FileBoundaries.class, PeerBoundaries.class,
         OpeningBoundaries.class, AskingBoundaries.class, ComingBoundaries.class, AnswerBoundaries.class,
         Refusals.class);
@@ -20,16 +21,13 @@ public final class BoundaryTest {
     public static void main(String[] args) throws IllegalAccessException {
         Checks checks = new Checks("BoundaryTest");
         int[] tests = new int[PROMISES + 1];
-        for (Class<?> group : GROUPS) {
-            for (Method method : testsOf(group)) {
-                Matcher matcher = NAME.matcher(method.getName());
-                boolean named = matcher.matches();
-                checks.begin(method.getName());
-                checks.due("is named by its promise", named, true);
-                if (named) {
-                    tests[Integer.parseInt(matcher.group(1))]++;
-                    run(method, checks);
-                }
+        for (Method test : tests()) {
+            int promise = promiseOf(test);
+            checks.begin(test.getName());
+            checks.due("is named by its promise", promise >= 1 && promise <= PROMISES, true);
+            if (promise >= 1 && promise <= PROMISES) {
+                tests[promise]++;
+                run(test, checks);
             }
         }
         checks.begin("BoundaryTest");
@@ -39,11 +37,20 @@ public final class BoundaryTest {
         checks.end();
     }
 
-    private static List<Method> testsOf(Class<?> group) {
+    static List<Method> tests() {
+        return GROUPS.stream().flatMap(BoundaryTest::testsOf).toList();
+    }
+
+    /** The number that the test's name bears; 0 if it bears none. */
+    static int promiseOf(Method test) {
+        Matcher matcher = NAME.matcher(test.getName());
+        return matcher.matches() ? Integer.parseInt(matcher.group(1)) : 0;
+    }
+
+    private static Stream<Method> testsOf(Class<?> group) {
         return Stream.of(group.getDeclaredMethods())
             .filter(method -> List.of(method.getParameterTypes()).equals(List.of(Checks.class)))
-            .sorted(Comparator.comparing(Method::getName))
-            .toList();
+            .sorted(Comparator.comparing(Method::getName));
     }
 
     private static void run(Method test, Checks checks) throws IllegalAccessException {

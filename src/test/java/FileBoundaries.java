@@ -11,6 +11,7 @@ final class FileBoundaries implements Terms {
         checks.due("K", x.count(5), blocks);
     }
 
+    @Holds("A FILE of one PIECE of one BLOCK, seed 0;")
     static void promise1FileOfOnePieceOfOneBlockOfSeedZero(Checks checks) {
         PieceSwarm x = new PieceSwarm();
         dueFile(checks, x, 1, 1);
@@ -22,6 +23,13 @@ final class FileBoundaries implements Terms {
         checks.due("no PEER HAS it", x.alone(NONE), 1);
     }
 
+    @Holds("The constants: NONE = -1: There is none.")
+    static void promise1NoneIsMinusOne(Checks checks) {
+        checks.due("NONE", PieceSwarm.NONE, -1);
+        checks.due("what is answered if there is none", new PieceSwarm().about(0, 0), PieceSwarm.NONE);
+    }
+
+    @Holds("no PEERS; tick 0.")
     static void promise1TickZeroAndNothingSent(Checks checks) {
         PieceSwarm x = new PieceSwarm();
         for (int what : new int[] {0, 1, 2, 3, 6, 7, 8, 9, 10}) {
@@ -66,6 +74,7 @@ final class FileBoundaries implements Terms {
         checks.due("the other one's tick", y.count(0), 0);
     }
 
+    @Holds("An object is used for at most 512 calls after it has been made; what later calls answer is free.")
     static void promise1FiveHundredTwelveCalls(Checks checks) {
         PieceSwarm x = new PieceSwarm();
         for (int call = 1; call <= 511; call++) {
@@ -74,6 +83,7 @@ final class FileBoundaries implements Terms {
         checks.due("the tick as call 512", x.count(0), 511 * 50);
     }
 
+    @Holds("1. THE FILE has N PIECES (1 to 24)")
     static void promise2PiecesOneToTwentyFour(Checks checks) {
         PieceSwarm x = new PieceSwarm();
         for (int pieces = 1; pieces <= 24; pieces++) {
@@ -88,6 +98,7 @@ final class FileBoundaries implements Terms {
         }
     }
 
+    @Holds("of K BLOCKS (1 to 4), each a VALUE:")
     static void promise2BlocksOneToFour(Checks checks) {
         PieceSwarm x = new PieceSwarm();
         for (int blocks = 1; blocks <= 4; blocks++) {
@@ -102,6 +113,7 @@ final class FileBoundaries implements Terms {
         }
     }
 
+    @Holds("False: numbers are not as told,")
     static void promise2BothNumbersMustBeAsTold(Checks checks) {
         PieceSwarm x = Swarms.swarm(3, 2, 1);
         for (int pieces : NO_PIECES) {
@@ -123,6 +135,7 @@ final class FileBoundaries implements Terms {
         checks.due("the VALUE of the least seed", x.value(0, 0), -2147405767);
     }
 
+    @Holds("The FILE becomes another one.")
     static void promise2ASmallerOneForgetsTheGreaterOne(Checks checks) {
         PieceSwarm x = Swarms.swarm(24, 4, 0);
         checks.due("the greatest FILE's last BLOCK", x.value(23, 3), 1754766210);
@@ -155,6 +168,7 @@ final class FileBoundaries implements Terms {
         checks.due("so there are no PEERS", x.file(2, 1, 0), true);
     }
 
+    @Holds("or there are PEERS.")
     static void promise2NotWithOnePeer(Checks checks) {
         PieceSwarm x = Swarms.swarm(2, 2, 5);
         x.peer(PLAIN, 1, 1);
@@ -181,6 +195,7 @@ final class FileBoundaries implements Terms {
         dueFile(checks, x, 1, 1);
     }
 
+    @Holds("The VALUE of a BLOCK of the FILE;")
     static void promise3FirstAndLastBlock(Checks checks) {
         PieceSwarm x = Swarms.swarm(24, 4, 0);
         int[] first = {12345, 1103559978, -2087859702, -984444634};
@@ -191,6 +206,8 @@ final class FileBoundaries implements Terms {
     }
 
     /** Seed + 4 p + b goes over the greatest int from seed GREATEST on, and over 0 from seed -1 on. */
+    @Holds("that of BLOCK b of PIECE p is made from a seed: x = seed + 4 p + b, x = x * 1103515245 + 12345, x ^ (x "
+        + ">>> 15) (ints, they wrap).")
     static void promise3IntsWrap(Checks checks) {
         int[][] values = {
             {GREATEST, 1043963327, -2147405767, -1043858134, 59558410, -1496206946},
@@ -226,6 +243,7 @@ final class FileBoundaries implements Terms {
         return (int) (x ^ x >> 15);
     }
 
+    @Holds("0 without one.")
     static void promise3ZeroWithoutABlock(Checks checks) {
         int[][] files = {{1, 1}, {1, 4}, {24, 1}, {24, 4}, {2, 2}};
         for (int[] file : files) {
@@ -248,6 +266,7 @@ final class FileBoundaries implements Terms {
         checks.due("value(2, -4)", x.value(2, -4), 0);
     }
 
+    @Holds("The SUM of a PIECE of the FILE;")
     static void promise4SumOfOneBlockIsItsValue(Checks checks) {
         PieceSwarm x = Swarms.swarm(24, 1, 77);
         for (int piece = 0; piece < 24; piece++) {
@@ -256,6 +275,7 @@ final class FileBoundaries implements Terms {
         checks.due("by hand", x.sum(0), -928754103);
     }
 
+    @Holds("SUM of K VALUES: s = 0, then for each in order s = s * 69069 + VALUE.")
     static void promise4SumOfFourBlocksWraps(Checks checks) {
         int[][] sums = {
             {0, 466665295, -736329960}, {1, 191728345, 1863168669}, {-1, 74347192, -137046718},
@@ -274,6 +294,7 @@ final class FileBoundaries implements Terms {
         }
     }
 
+    @Holds("0 without one.")
     static void promise4ZeroWithoutAPiece(Checks checks) {
         for (int pieces : new int[] {1, 2, 23, 24}) {
             PieceSwarm x = Swarms.swarm(pieces, 4, 1);

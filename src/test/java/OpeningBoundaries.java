@@ -3,6 +3,10 @@ final class OpeningBoundaries implements Terms {
     private OpeningBoundaries() {
     }
 
+    @Holds({
+        "n TICKS (0 to 50):",
+        "NONE for another n.",
+        "2. A TICK (numbered from 1 on):"})
     static void promise10NoughtToFifty(Checks checks) {
         PieceSwarm x = new PieceSwarm();
         int ticks = 0;
@@ -56,6 +60,7 @@ final class OpeningBoundaries implements Terms {
         new Look(12, 4, 5).dueAlike(checks, "behind fifty", begun.tick(50), byOnes);
     }
 
+    @Holds("how many BLOCKS were sent in them.")
     static void promise10CountsWhatWasSentInTheseTicksAlone(Checks checks) {
         PieceSwarm x = Swarms.seedAndTaker(24, 4, 1, 1);
         checks.due("ten ticks", x.tick(10), 10);
@@ -90,6 +95,7 @@ final class OpeningBoundaries implements Terms {
     }
 
     /** Who met behind tick t is open from the first of the ticks 1, 5, 9 and so on that comes then. */
+    @Holds("b. In ticks 1, 5, 9 and so on")
     static void promise10OpensInTicksOneFiveNine(Checks checks) {
         for (int before = 0; before <= 12; before++) {
             PieceSwarm x = Swarms.swarm(24, 4);
@@ -105,6 +111,9 @@ final class OpeningBoundaries implements Terms {
         }
     }
 
+    @Holds({
+        "else of those who WANT of it the three",
+        "and BY TURNS one of the other ones who WANT:"})
     static void promise10OpensToNoneThreeAndOneMore(Checks checks) {
         for (int wanting = 0; wanting <= 11; wanting++) {
             PieceSwarm x = Swarms.swarm(24, 4);
@@ -120,6 +129,10 @@ final class OpeningBoundaries implements Terms {
         }
     }
 
+    @Holds({
+        "2 FREE: it opens to nobody;",
+        "5 SHY: as FREE,",
+        "none, if it is FREE or SHY;"})
     static void promise10FreeAndShyOnesOpenToNone(Checks checks) {
         for (int kind : new int[] {PLAIN, FREE, FALSE, SLOW, SHY}) {
             PieceSwarm x = Swarms.oneThatGotAll(2, 1, kind, 8);
@@ -133,6 +146,7 @@ final class OpeningBoundaries implements Terms {
     }
 
     /** All got one BLOCK, so all LATE numbers are like: the three least numbers, then the next by turns. */
+    @Holds("of like ones the least numbers;")
     static void promise10OfLikeLateNumbersTheLeastPeers(Checks checks) {
         PieceSwarm x = Swarms.swarm(24, 4);
         x.peer(SEED, 4, 1);
@@ -153,6 +167,7 @@ final class OpeningBoundaries implements Terms {
      * SEED 6 gives to 1, 2 and 3 in tick 1, so that SEED 0, of up rate 1, gives to 4; then 6 goes, and 0 gives to 1. In
      * tick 5 the LATE numbers of 1 to 5 are 3, 0, 0, 1, 0: the one BLOCK brings 4 before 3, and 5 has the turn.
      */
+    @Holds("with the greatest LATE number,")
     static void promise10OneBlockMoreIsEnough(Checks checks) {
         PieceSwarm x = Swarms.swarm(24, 4);
         x.peer(SEED, 1, 1);
@@ -175,7 +190,54 @@ final class OpeningBoundaries implements Terms {
         }
     }
 
+    /**
+     * 0 got PIECES 2 to 9 of SEED 6; FREE 1 and 2, 3, 4 have the PIECES 0 and 1. In tick 9, where all LATE numbers are
+     * like, 0 is open to 1, 2 and 3, and by turns to 4. It then gets a BLOCK of 2, of 3 and, at the END, a SPARE one of
+     * 4, and gives to 1 alone. So in tick 13 those three are the ones who gave of late, and 1, who only takes, has the
+     * turn.
+     */
+    @Holds({
+        "each gives to those who gave of late and to one by turns,",
+        "those who only take get what turns leave them,",
+        "LATE number of b at a: of an a that isn't DONE how many BLOCKS came to it from b,"})
+    static void promise10OneThatIsNotDoneOpensToThoseWhoGaveOfLate(Checks checks) {
+        PieceSwarm x = Swarms.swarm(24, 1);
+        x.peer(PLAIN, 1, 3);
+        x.peer(FREE, 1, 2);
+        Swarms.add(x, 3, PLAIN, 2, 2);
+        x.peer(SEED, 8, 1);
+        x.peer(SEED, 2, 1);
+        Swarms.meetAll(x, 5, 1, 4);
+        checks.due("tick 1: two to each of 1 to 4", x.tick(1), 8);
+        x.leave(5);
+        x.tick(3);
+        x.meet(0, 6);
+        x.meet(0, 1);
+        checks.due("ticks 5 to 8: to 0", x.tick(4), 8);
+        checks.due("not PIECE 1, of which 1 TELLS", x.held(0, 1), 0);
+        x.leave(6);
+        Swarms.meetAll(x, 0, 2, 4);
+        checks.due("tick 9: three to 0, one to 1", x.tick(1), 4);
+        checks.due("by turns to 4", x.pair(0, 4, 8), 1);
+        checks.due("SPARE", x.about(0, 6), 1);
+        checks.due("ticks 10 to 12: to 1", x.tick(3), 3);
+        checks.due("0 is not DONE", x.about(0, 9), NONE);
+        checks.due("it sent four to 1", x.pair(0, 1, 5), 4);
+        for (int i = 1; i <= 4; i++) {
+            checks.due("LATE number of " + i, x.pair(0, i, 4), i == 1 ? 0 : 1);
+            checks.due(i + " WANTS of 0", x.pair(0, i, 2), 1);
+        }
+        x.tick(1);
+        for (int i = 1; i <= 4; i++) {
+            checks.due("tick 13: open to " + i, x.pair(0, i, 3), 1);
+            checks.due("tick 13: by turns to " + i, x.pair(0, i, 8), i == 1 ? 1 : 0);
+        }
+    }
+
     /** SEED 5 of up rate 1 gives to 0 alone; so 0, 1 and 2 are always the three, and the turn goes round the others. */
+    @Holds({
+        "the first with a greater number than the one who was so the latest time",
+        "if there is none such the first of them."})
     static void promise10TurnsGoRound(Checks checks) {
         PieceSwarm x = Swarms.swarm(24, 4);
         Swarms.add(x, 5, PLAIN, 1, 1);
@@ -208,6 +270,7 @@ final class OpeningBoundaries implements Terms {
     }
 
     /** Before tick 5 SEED 5 gave to 1, 2 and 3; nobody had a turn yet, so that it is the least one's, 0. */
+    @Holds("(at first none was: 0 and on),")
     static void promise10TheFirstTurnIsFromZeroOn(Checks checks) {
         PieceSwarm x = Swarms.swarm(24, 4);
         Swarms.add(x, 5, PLAIN, 1, 1);
@@ -248,6 +311,7 @@ final class OpeningBoundaries implements Terms {
     }
 
     /** What came in the tick before, and not in the one that OPENS, counts when 1 OPENS. */
+    @Holds("since a OPENED the latest time.")
     static void promise10LateNumbersBeginAnewWithEachOpening(Checks checks) {
         PieceSwarm x = Swarms.seedAndTaker(24, 4, 2, 2);
         for (int tick = 1; tick <= 9; tick++) {
@@ -259,6 +323,9 @@ final class OpeningBoundaries implements Terms {
     }
 
     /** A gone one does not OPEN, so that its LATE numbers go on till it does. */
+    @Holds({
+        "each PEER that is HERE, by numbers, OPENS anew:",
+        "since a OPENED the latest time."})
     static void promise10AGoneOneDoesNotOpen(Checks checks) {
         PieceSwarm x = Swarms.seedAndTaker(24, 4, 2, 2);
         x.tick(4);
@@ -272,6 +339,7 @@ final class OpeningBoundaries implements Terms {
     }
 
     /** 1 gets its last BLOCK in tick 2; from then on its LATE numbers are of what it sent. */
+    @Holds("else how many it sent to b,")
     static void promise10LateNumbersOfOneThatIsDone(Checks checks) {
         PieceSwarm x = Swarms.seedAndTaker(2, 1, 1, 1);
         x.tick(1);

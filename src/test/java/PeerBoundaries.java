@@ -5,6 +5,9 @@ final class PeerBoundaries implements Terms {
     private PeerBoundaries() {
     }
 
+    @Holds({
+        "KINDS: 0 PLAIN;",
+        "no such KIND,"})
     static void promise5KindsZeroToFive(Checks checks) {
         PieceSwarm x = new PieceSwarm();
         for (int kind = 0; kind <= 5; kind++) {
@@ -17,6 +20,7 @@ final class PeerBoundaries implements Terms {
         checks.due("PEERS", x.count(1), 6);
     }
 
+    @Holds("rates not 1 to 8.")
     static void promise5RatesOneToEight(Checks checks) {
         PieceSwarm x = new PieceSwarm();
         checks.due("least rates", x.peer(PLAIN, 1, 1), 0);
@@ -31,6 +35,9 @@ final class PeerBoundaries implements Terms {
         checks.due("PEERS", x.count(1), 4);
     }
 
+    @Holds({
+        "PEERS (at most 12, numbered from 0 on)",
+        "NONE: there are 12,"})
     static void promise5TwelveAndNoThirteenth(Checks checks) {
         PieceSwarm x = new PieceSwarm();
         for (int i = 0; i < 12; i++) {
@@ -64,6 +71,7 @@ final class PeerBoundaries implements Terms {
         checks.due("the second", x.peer(PLAIN, 1, 1), 1);
     }
 
+    @Holds("A new PEER, HERE: its number;")
     static void promise5NewOnesAreHereAndHaveNothing(Checks checks) {
         PieceSwarm x = Swarms.swarm(24, 4);
         for (int kind = 0; kind <= 5; kind++) {
@@ -79,6 +87,7 @@ final class PeerBoundaries implements Terms {
         }
     }
 
+    @Holds("1 SEED: it HAS all PIECES from the beginning;")
     static void promise5ASeedHasAllFromTheBeginning(Checks checks) {
         int[][] files = {{1, 1}, {1, 4}, {24, 1}, {24, 4}};
         for (int[] file : files) {
@@ -95,6 +104,10 @@ final class PeerBoundaries implements Terms {
     }
 
     /** What a tick sends is the lesser of the two rates, for each of the 64 pairs of them. */
+    @Holds({
+        "they have an up and a down rate (1 to 8 BLOCKS a tick).",
+        "Then each PEER that is HERE may send as many BLOCKS as its up rate tells, and ask as many as its down rate "
+            + "tells."})
     static void promise5RatesBind(Checks checks) {
         for (int up = 1; up <= 8; up++) {
             for (int down = 1; down <= 8; down++) {
@@ -105,6 +118,9 @@ final class PeerBoundaries implements Terms {
         }
     }
 
+    @Holds({
+        "(1 to 100)",
+        "number."})
     static void promise6OneToAHundred(Checks checks) {
         PieceSwarm x = new PieceSwarm();
         x.peer(FALSE, 1, 1);
@@ -117,6 +133,7 @@ final class PeerBoundaries implements Terms {
         checks.due("the same f again", x.often(0, 100) && x.often(0, 100), true);
     }
 
+    @Holds("another KIND,")
     static void promise6OnlyAFalseOne(Checks checks) {
         PieceSwarm x = new PieceSwarm();
         for (int kind = 0; kind <= 5; kind++) {
@@ -125,6 +142,7 @@ final class PeerBoundaries implements Terms {
         }
     }
 
+    @Holds("False: no such PEER,")
     static void promise6NoSuchPeer(Checks checks) {
         PieceSwarm x = new PieceSwarm();
         Swarms.add(x, 2, FALSE, 1, 1);
@@ -145,6 +163,7 @@ final class PeerBoundaries implements Terms {
         checks.due("gone", x.often(0, 3), true);
     }
 
+    @Holds("(f 2 at first;")
     static void promise6TwoAtFirst(Checks checks) {
         PieceSwarm x = Swarms.oneThatGotAll(3, 1, FALSE, 1);
         x.peer(PLAIN, 1, 1);
@@ -156,6 +175,7 @@ final class PeerBoundaries implements Terms {
         checks.due("the second is false", x.about(2, 7), 1);
     }
 
+    @Holds("has VALUE ^ 1;")
     static void promise6OneMakesEachBlockFalse(Checks checks) {
         PieceSwarm x = Swarms.oneThatGotAll(3, 2, FALSE, 1);
         x.often(1, 1);
@@ -168,6 +188,9 @@ final class PeerBoundaries implements Terms {
     }
 
     /** Each f up to 8: of 8 BLOCKS, a tick and PIECE each, those before the f-th are true, and the f-th is false. */
+    @Holds({
+        "f of a FALSE PEER becomes another one",
+        "3 FALSE: of the BLOCKS that it sends each f-th"})
     static void promise6TheFthIsTheFirstFalseOne(Checks checks) {
         for (int f = 1; f <= 8; f++) {
             PieceSwarm x = Swarms.oneThatGotAll(8, 1, FALSE, 1);
@@ -205,6 +228,7 @@ final class PeerBoundaries implements Terms {
         checks.due("the 99 others are true", pieces, 99);
     }
 
+    @Holds("counted over all that it sends)")
     static void promise6CountsOverAllTakers(Checks checks) {
         PieceSwarm x = Swarms.oneThatGotAll(2, 1, FALSE, 2);
         Swarms.add(x, 2, PLAIN, 1, 1);
@@ -213,6 +237,24 @@ final class PeerBoundaries implements Terms {
         checks.due("one to each", x.tick(1), 2);
         checks.due("the first, to 2, is true", x.about(2, 2), 1);
         checks.due("the second, to 3, is false", x.about(3, 7), 1);
+    }
+
+    /** The first that FALSE 1 sends, at the END to 2, is SPARE; yet it counts, so that its second one is false. */
+    @Holds("counted over all that it sends)")
+    static void promise6SpareOnesCountToo(Checks checks) {
+        PieceSwarm x = Swarms.swarm(1, 1);
+        x.peer(SEED, 8, 1);
+        x.peer(FALSE, 1, 1);
+        x.peer(PLAIN, 1, 2);
+        x.peer(PLAIN, 1, 1);
+        x.meet(0, 1);
+        x.tick(4);
+        Swarms.meetAll(x, 2, 0, 1);
+        checks.due("tick 5", x.tick(1), 2);
+        checks.due("SPARE", x.about(2, 6), 1);
+        x.meet(1, 3);
+        checks.due("tick 9", x.tick(4), 1);
+        checks.due("it is false", x.about(3, 7), 1);
     }
 
     /** Three were sent when f becomes 2: the fourth is false, as it would not be if a count began anew. */
@@ -241,6 +283,7 @@ final class PeerBoundaries implements Terms {
         checks.due("the third is false", x.about(2, 7), 1);
     }
 
+    @Holds("False: no such two,")
     static void promise7NoSuchTwo(Checks checks) {
         PieceSwarm x = new PieceSwarm();
         Swarms.add(x, 3, PLAIN, 1, 1);
@@ -261,6 +304,9 @@ final class PeerBoundaries implements Terms {
         }
     }
 
+    @Holds({
+        "or they are NEIGHBOURS already.",
+        "NEIGHBOURS are two PEERS that met;"})
     static void promise7AllOfTwelveMeetOnce(Checks checks) {
         PieceSwarm x = new PieceSwarm();
         Swarms.add(x, 12, PLAIN, 1, 1);
@@ -276,6 +322,9 @@ final class PeerBoundaries implements Terms {
         }
     }
 
+    @Holds({
+        "Two PEERS meet (HERE or not).",
+        "they are NEAR if both are HERE"})
     static void promise7OneOrBothGone(Checks checks) {
         PieceSwarm x = new PieceSwarm();
         Swarms.add(x, 3, PLAIN, 1, 1);
@@ -305,6 +354,7 @@ final class PeerBoundaries implements Terms {
         checks.due("NEIGHBOURS", x.pair(1, 2, 0), 1);
     }
 
+    @Holds("False: no such one,")
     static void promise8NoSuchOne(Checks checks) {
         PieceSwarm x = new PieceSwarm();
         Swarms.add(x, 2, PLAIN, 1, 1);
@@ -316,6 +366,11 @@ final class PeerBoundaries implements Terms {
         checks.due("the last", x.leave(1), true);
     }
 
+    @Holds({
+        "A PEER goes.",
+        "or it isn't HERE.",
+        "are HERE or gone;",
+        "To go: a PEER is not HERE;"})
     static void promise8OneThatIsNotHere(Checks checks) {
         PieceSwarm x = new PieceSwarm();
         Swarms.add(x, 2, PLAIN, 1, 1);
@@ -349,6 +404,7 @@ final class PeerBoundaries implements Terms {
     }
 
     /** SLOW 1 gives to SLOW 2, and this to PLAIN 3: as 2 goes in tick 9, two were COMING to it and one from it. */
+    @Holds("what is COMING to it or from it is lost;")
     static void promise8LosesWhatIsComingToItAndFromIt(Checks checks) {
         PieceSwarm x = Swarms.swarm(24, 1);
         x.peer(SEED, 8, 1);
@@ -396,6 +452,7 @@ final class PeerBoundaries implements Terms {
         }
     }
 
+    @Holds("it opens to nobody, nobody to it.")
     static void promise8OpensToNobodyAndNobodyToIt(Checks checks) {
         PieceSwarm x = Swarms.swarm(2, 1);
         x.peer(SEED, 1, 1);
@@ -417,6 +474,7 @@ final class PeerBoundaries implements Terms {
         checks.due("a giver of another number", y.about(1, 12), 0);
     }
 
+    @Holds("MARKS, DOUBTS, BANS.")
     static void promise8KeepsMarksDoubtsAndBans(Checks checks) {
         PieceSwarm x = Swarms.seedAndFalseOne(1, 1, 2, 1);
         x.tick(1);
@@ -436,6 +494,7 @@ final class PeerBoundaries implements Terms {
         }
     }
 
+    @Holds("It keeps what it HAS and HOLDS,")
     static void promise8KeepsWhatItHasAndHolds(Checks checks) {
         PieceSwarm x = Swarms.seedAndTaker(2, 2, 3, 3);
         x.tick(1);
@@ -451,6 +510,7 @@ final class PeerBoundaries implements Terms {
         checks.due("ticks change nothing of it", x.held(1, 1), 1);
     }
 
+    @Holds("False: no such one,")
     static void promise9NoSuchOne(Checks checks) {
         PieceSwarm x = new PieceSwarm();
         Swarms.add(x, 2, PLAIN, 1, 1);
@@ -465,6 +525,9 @@ final class PeerBoundaries implements Terms {
         checks.due("both HERE", x.count(2), 2);
     }
 
+    @Holds({
+        "A PEER is HERE again.",
+        "or it is HERE."})
     static void promise9OneThatIsHere(Checks checks) {
         PieceSwarm x = new PieceSwarm();
         x.peer(PLAIN, 1, 1);
@@ -501,6 +564,7 @@ final class PeerBoundaries implements Terms {
         }
     }
 
+    @Holds("comers and goers,")
     static void promise9JoinedBeforeTickFiveOpensInIt(Checks checks) {
         PieceSwarm x = Swarms.seedAndTaker(24, 4, 1, 1);
         x.leave(0);

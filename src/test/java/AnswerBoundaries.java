@@ -580,6 +580,13 @@ final class AnswerBoundaries implements Terms {
         checks.due("here again, not open", x.pair(0, 4, 8), 0);
         x.tick(4);
         checks.due("tick 5: by turns again", x.pair(0, 4, 8), 1);
+        x.leave(1);
+        x.tick(4);
+        checks.due("tick 9: one of the three, so open", x.pair(0, 4, 3), 1);
+        checks.due("tick 9: not by turns", x.pair(0, 4, 8), 0);
+        x.join(1);
+        x.tick(4);
+        checks.due("tick 13: by turns", x.pair(0, 4, 8), 1);
         x.leave(0);
         checks.due("the giver is gone", x.pair(0, 4, 8), 0);
     }

@@ -107,11 +107,28 @@ final class AskingBoundaries implements Terms {
         }
     }
 
+    /** 2 HOLDS (0, 0) when it meets 1, which TELLS of PIECE 0, too: PIECE 1 is rarer, but PIECE 0 is begun. */
+    @Holds("First come PIECES of which d HOLDS a BLOCK,")
+    static void promise10APieceIsBegunByWhatIsHeld(Checks checks) {
+        PieceSwarm x = Swarms.swarm(2, 2);
+        x.peer(SEED, 8, 1);
+        x.peer(PLAIN, 8, 2);
+        x.peer(PLAIN, 1, 1);
+        Swarms.meetAll(x, 0, 1, 2);
+        checks.due("tick 1", x.tick(1), 3);
+        x.meet(1, 2);
+        checks.due("two TELL of 0", x.rare(2, 0), 2);
+        checks.due("one TELLS of 1", x.rare(2, 1), 1);
+        x.tick(1);
+        checks.due("both of PIECE 0", x.held(2, 0), 2);
+        checks.due("none of PIECE 1", x.held(2, 1), 0);
+    }
+
     /**
      * 3 asked BLOCK 0 of PIECE 0 of SLOW 1 in tick 5, where both PIECES were like. Then it meets 2, which TELLS of
      * PIECE 0: PIECE 1 is rarer, but PIECE 0 is begun by what is COMING alone.
      */
-    @Holds("First come PIECES of which d HOLDS a BLOCK, or one is COMING to it;")
+    @Holds("or one is COMING to it;")
     static void promise10APieceIsBegunByWhatIsComing(Checks checks) {
         PieceSwarm x = Swarms.swarm(2, 2);
         x.peer(SEED, 8, 1);
@@ -201,7 +218,8 @@ final class AskingBoundaries implements Terms {
      * 2 HOLDS a BLOCK of PIECE 1, which it had of SEED 0, and one of PIECE 0, of 1. In tick 9 SEED 0 alone TELLS of
      * PIECE 1, so this comes first; in tick 10 1 TELLS of it, too, so of the like ones PIECE 0 does.
      */
-    @Holds("First come PIECES of which d HOLDS a BLOCK, or one is COMING to it; of these,")
+    @Holds("of these, and then of others, those of which the fewest of all that are NEAR to d TELL; of like ones the "
+        + "least number.")
     static void promise10OfBegunPiecesTheRarestThenTheLeast(Checks checks) {
         PieceSwarm x = Swarms.swarm(2, 3);
         x.peer(SEED, 3, 1);

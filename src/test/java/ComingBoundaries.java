@@ -249,6 +249,8 @@ final class ComingBoundaries implements Terms {
         x.leave(0);
         x.tick(1);
         checks.due("the giver is not NEAR: what it HAS stays", x.held(2, 0), 1);
+        checks.due("and from whom it came", x.from(2, 0, 0), 0);
+        checks.due("and its VALUE", x.got(2, 0, 0), x.value(0, 0));
     }
 
     /** Of two SEEDS comes the one BLOCK: the second one is SPARE, as the PIECE is there. */

@@ -1,5 +1,7 @@
 import java.util.ArrayList;
+import java.util.HashMap;
 import java.util.List;
+import java.util.Map;
 import java.util.function.ToIntFunction;
 
 /** All that can be asked of the state behind a run: every PEER, PIECE, BLOCK and what that there is. */
@@ -77,6 +79,16 @@ final class Look {
             ask(run.made(), first, perObject, answers);
         }
         return answers;
+    }
+
+    /** As answersBehind, by the text of each call, such as "about(0, 2)". */
+    Map<String, Integer> namedAnswersBehind(Run run) {
+        int[] answers = answersBehind(run);
+        Map<String, Integer> named = new HashMap<>();
+        for (int i = 0; i < answers.length; i++) {
+            named.put(names.get(i), answers[i]);
+        }
+        return named;
     }
 
     /** Behind a run a call gives its answer, and all that is asked of the same object before and behind it is alike. */

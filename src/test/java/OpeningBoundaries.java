@@ -129,6 +129,20 @@ final class OpeningBoundaries implements Terms {
         }
     }
 
+    /** Though it opens to none, a FREE one OPENS, and so its LATE numbers begin anew. */
+    static void promise10LateNumbersOfAFreeOneBeginAnew(Checks checks) {
+        for (int kind : new int[] {FREE, SHY}) {
+            PieceSwarm x = Swarms.swarm(24, 4);
+            x.peer(SEED, 2, 1);
+            x.peer(kind, 1, 2);
+            x.meet(0, 1);
+            x.tick(4);
+            checks.due("kind " + kind + ", tick 4", x.pair(1, 0, 4), 8);
+            x.tick(1);
+            checks.due("kind " + kind + ", tick 5", x.pair(1, 0, 4), 2);
+        }
+    }
+
     @Holds({
         "2 FREE: it opens to nobody;",
         "5 SHY: as FREE,",

@@ -510,6 +510,44 @@ final class PeerBoundaries implements Terms {
         checks.due("ticks change nothing of it", x.held(1, 1), 1);
     }
 
+    /** What was counted stays, too: whom SEED 0 gave how much, and that 4 had the turn, so that the next one is 5's. */
+    static void promise8KeepsWhatItSentAndWhoseTurnItWas(Checks checks) {
+        PieceSwarm x = Swarms.swarm(24, 4);
+        x.peer(SEED, 2, 1);
+        Swarms.add(x, 6, PLAIN, 1, 1);
+        Swarms.meetAll(x, 0, 1, 6);
+        checks.due("tick 1: to 1 and 2", x.tick(1), 2);
+        checks.due("the turn of 4", x.pair(0, 4, 8), 1);
+        x.leave(0);
+        x.leave(1);
+        checks.due("sent to 1", x.pair(0, 1, 5), 1);
+        checks.due("the LATE number of 1", x.pair(0, 1, 4), 1);
+        checks.due("the LATE number at 1", x.pair(1, 0, 4), 1);
+        checks.due("sent", x.about(0, 5), 2);
+        checks.due("came", x.about(1, 4), 1);
+        x.join(0);
+        x.join(1);
+        x.tick(4);
+        checks.due("tick 5: the turn of 5", x.pair(0, 5, 8), 1);
+        checks.due("sent to 1 in all", x.pair(0, 1, 5), 2);
+    }
+
+    /** What SLOW 1 sent is lost as 2 goes: it was sent all the same. */
+    static void promise8WhatIsLostWasSent(Checks checks) {
+        PieceSwarm x = Swarms.oneThatGotAll(1, 2, SLOW, 2);
+        x.peer(PLAIN, 1, 2);
+        x.meet(1, 2);
+        checks.due("tick 5", x.tick(1), 2);
+        x.leave(2);
+        checks.due("lost", x.count(8), 2);
+        checks.due("sent by 1", x.about(1, 5), 2);
+        checks.due("sent to 2", x.pair(1, 2, 5), 2);
+        checks.due("the LATE number of 2", x.pair(1, 2, 4), 2);
+        checks.due("sent in all", x.count(6), 4);
+        checks.due("none came to 2", x.about(2, 4), 0);
+        checks.due("nor does it count as SPARE", x.about(2, 6), 0);
+    }
+
     @Holds("False: no such one,")
     static void promise9NoSuchOne(Checks checks) {
         PieceSwarm x = new PieceSwarm();

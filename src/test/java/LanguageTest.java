@@ -1,19 +1,24 @@
 import java.io.IOException;
 import java.lang.reflect.Array;
 import java.lang.reflect.Field;
+import java.lang.reflect.InvocationTargetException;
 import java.lang.reflect.Method;
 import java.lang.reflect.Modifier;
 import java.nio.file.Files;
 import java.nio.file.Path;
 import java.util.ArrayDeque;
 import java.util.ArrayList;
+import java.util.Arrays;
 import java.util.Collections;
+import java.util.Comparator;
 import java.util.Deque;
 import java.util.IdentityHashMap;
 import java.util.List;
+import java.util.Random;
 import java.util.Set;
 import java.util.regex.Matcher;
 import java.util.regex.Pattern;
+import java.util.stream.Stream;
 
 /** What of LANGUAGE.md can be seen in the text of the class, in its parts, and in the objects that it keeps. */
 public final class LanguageTest implements Terms {
@@ -22,6 +27,8 @@ public final class LanguageTest implements Terms {
         "synchronized", "assert", "protected", "volatile", "native", "hashCode", "toString", "\\w+Exact");
     /** What the class uses; another one must stand in rule 4 before it is added here. */
     private static final Set<String> LIBRARY = Set.of("Integer.bitCount", "Math.max");
+    private static final int[] EDGES = {LEAST, -1, 0, 0, 1, 1, 2, 2, 3, 3, 4, 5, 6, 7, 8, 9, 10, 11, 12, 13, 24, 50, 51,
+        GREATEST};
     private static final int MOST_LINES = 60;
     private static final int MOST_PARAMETERS = 7;
     private static final int MOST_FIELDS = 20;
@@ -39,6 +46,7 @@ public final class LanguageTest implements Terms {
             parts(inside);
         }
         room();
+        noCallThrows();
         CHECKS.end();
     }
 
@@ -82,6 +90,36 @@ public final class LanguageTest implements Terms {
         CHECKS.due("fields of " + type.getName(), fields <= MOST_FIELDS, true);
         for (Method method : type.getDeclaredMethods()) {
             CHECKS.due("parameters of " + method, method.getParameterCount() <= MOST_PARAMETERS, true);
+        }
+    }
+
+    /** Any arguments in any state, also long behind the 512th call, where what is answered is free. */
+    private static void noCallThrows() throws IllegalAccessException {
+        Random random = new Random(7);
+        Method[] calls = Stream.of(PieceSwarm.class.getDeclaredMethods())
+            .filter(method -> Modifier.isPublic(method.getModifiers()))
+            .sorted(Comparator.comparing(Method::getName))
+            .toArray(Method[]::new);
+        for (int object = 0; object < 20; object++) {
+            PieceSwarm swarm = Swarms.swarm(1 + random.nextInt(24), 1 + random.nextInt(4));
+            for (int i = 0; i < 3000; i++) {
+                Method call = calls[random.nextInt(calls.length)];
+                Object[] arguments = new Object[call.getParameterCount()];
+                for (int k = 0; k < arguments.length; k++) {
+                    arguments[k] = random.nextInt(10) == 0 ? random.nextInt() : EDGES[random.nextInt(EDGES.length)];
+                }
+                CHECKS.due(call.getName() + Arrays.toString(arguments), ends(call, swarm, arguments), true);
+            }
+        }
+    }
+
+    private static boolean ends(Method call, PieceSwarm swarm, Object[] arguments) throws IllegalAccessException {
+        try {
+            call.invoke(swarm, arguments);
+            return true;
+        } catch (InvocationTargetException thrown) {
+            thrown.getCause().printStackTrace(System.out);
+            return false;
         }
     }
 
